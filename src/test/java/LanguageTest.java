@@ -1,0 +1,126 @@
+import java.io.IOException;
+import java.lang.reflect.Constructor;
+import java.lang.reflect.Field;
+import java.lang.reflect.Method;
+import java.lang.reflect.Modifier;
+import java.nio.charset.StandardCharsets;
+import java.nio.file.Files;
+import java.nio.file.Path;
+import java.util.Arrays;
+import java.util.HashSet;
+import java.util.List;
+import java.util.Set;
+import java.util.regex.Matcher;
+import java.util.regex.Pattern;
+
+/** The public face, and the rules of LANGUAGE.md that can be seen in the source or by reflection. */
+public final class LanguageTest {
+    private static final List<String> FACE = List.of(
+        "int write(int,long)", "int wipe()", "int fault()", "int ship()", "int place(int,int)", "int timber(int,int)",
+        "int take(int)", "int put(int,int)", "int move(int,int)", "int watch()", "int back()", "int leak()",
+        "int floats()", "int harm(int)", "int may(int,int)", "int best(int)", "int bestAt(int,int)", "int port(int)",
+        "int portAt(int,int)", "long storm(int,int,boolean)", "int share(int,boolean)", "int log(int,int)",
+        "int keep(int)", "int again(int)", "int count(int)");
+    private static final List<String> CONSTANTS = List.of("UNKNOWN", "OUTSIDE", "STATE", "FULL", "NONE");
+    private static final List<String> LIBRARY = List.of("System.arraycopy", "Math.max", "Math.min", "Integer.bitCount",
+        "Integer.numberOfTrailingZeros");
+
+    public static void main(String[] args) throws IOException {
+        face();
+        classes();
+        String source = Files.readString(Path.of("src/main/java/ShipFromItself.java"), StandardCharsets.ISO_8859_1);
+        words(source);
+        methodsAreShort(source);
+        Check.end();
+    }
+
+    private static void face() {
+        Set<String> seen = new HashSet<>();
+        for (Method method : ShipFromItself.class.getDeclaredMethods()) {
+            if (Modifier.isPublic(method.getModifiers())) {
+                seen.add(told(method));
+            } else {
+                Check.holds("private: " + method, Modifier.isPrivate(method.getModifiers()));
+            }
+        }
+        Check.holds("the face's methods: " + seen, seen.equals(new HashSet<>(FACE)));
+        Constructor<?>[] constructors = ShipFromItself.class.getDeclaredConstructors();
+        Check.due("constructors", constructors.length, 1);
+        Check.holds("public constructor without parameters",
+            Modifier.isPublic(constructors[0].getModifiers()) && constructors[0].getParameterCount() == 0);
+        Set<String> constants = new HashSet<>();
+        for (Field field : ShipFromItself.class.getDeclaredFields()) {
+            if (Modifier.isPublic(field.getModifiers())) {
+                constants.add(field.getName());
+                Check.holds("static final int: " + field, Modifier.isStatic(field.getModifiers())
+                    && Modifier.isFinal(field.getModifiers()) && field.getType() == int.class);
+            } else {
+                Check.holds("private: " + field, Modifier.isPrivate(field.getModifiers()));
+            }
+        }
+        Check.holds("the face's constants: " + constants, constants.equals(new HashSet<>(CONSTANTS)));
+        Check.holds("public final class", ShipFromItself.class.getModifiers() == (Modifier.PUBLIC | Modifier.FINAL));
+    }
+
+    private static String told(Method method) {
+        StringBuilder told = new StringBuilder();
+        told.append(method.getReturnType()).append(' ').append(method.getName()).append('(');
+        for (Class<?> one : method.getParameterTypes()) {
+            told.append(told.charAt(told.length() - 1) == '(' ? "" : ",").append(one);
+        }
+        return told.append(')').toString();
+    }
+
+    private static void classes() {
+        Class<?>[] inside = ShipFromItself.class.getDeclaredClasses();
+        Check.holds("some twelve classes", inside.length + 1 <= 12);
+        for (Class<?> one : inside) {
+            Check.holds("private static: " + one,
+                Modifier.isPrivate(one.getModifiers()) && Modifier.isStatic(one.getModifiers()));
+            for (Method method : one.getDeclaredMethods()) {
+                Check.holds("no name of the face: " + method,
+                    FACE.stream().noneMatch(told -> told.contains(' ' + method.getName() + '(')));
+                Check.holds("seven parameters at most: " + method, method.getParameterCount() <= 7);
+            }
+        }
+        for (Method method : ShipFromItself.class.getDeclaredMethods()) {
+            Check.holds("no name of the face: " + method, Modifier.isPublic(method.getModifiers())
+                || FACE.stream().noneMatch(told -> told.contains(' ' + method.getName() + '(')));
+        }
+        long fields = Arrays.stream(ShipFromItself.class.getDeclaredFields())
+            .filter(field -> !Modifier.isStatic(field.getModifiers())).count();
+        Check.holds("some twenty fields", fields <= 20);
+    }
+
+    private static void words(String source) {
+        String code = source.replaceAll("(?s)/\\*.*?\\*/", " ").replaceAll("//[^\n]*", " ");
+        for (String word : List.of("throw", "throws", "try", "catch", "finally", "synchronized", "assert", "import",
+            "package", "native", "volatile", "transient", "var", "instanceof", "String", "null", "protected", "@\\w+")) {
+            Check.holds("without " + word, !Pattern.compile("(?<!\\w)" + word + "(?!\\w)").matcher(code).find());
+        }
+        Check.holds("no lambda, no method reference", !code.contains("->") && !code.contains("::"));
+        Check.holds("plain signs", source.chars().allMatch(sign -> sign == '\n' || sign >= 32 && sign < 127));
+        Matcher library = Pattern.compile("\\b[A-Z][A-Za-z]*\\.[a-z]\\w*").matcher(code);
+        while (library.find()) {
+            Check.holds("library: " + library.group(), LIBRARY.contains(library.group()));
+        }
+        Matcher loop = Pattern.compile("\\b(while|do)\\b").matcher(code);
+        Check.holds("loops by a counter alone", !loop.find());
+    }
+
+    private static void methodsAreShort(String source) {
+        int begun = 0;
+        String[] lines = source.split("\n");
+        for (int i = 0; i < lines.length; i++) {
+            if (lines[i].matches(" {4}( {4})?[A-Za-z].*\\) \\{")) {
+                begun = i;
+            } else if (lines[i].matches(" {4}( {4})?\\}")) {
+                Check.holds("sixty lines at most, from line " + (begun + 1), i - begun < 60 || !isMethod(lines[begun]));
+            }
+        }
+    }
+
+    private static boolean isMethod(String line) {
+        return line.endsWith(") {");
+    }
+}
