@@ -751,18 +751,22 @@ public final class ShipFromItself {
 
         void remember(Load load) {
             if (size >= MOST_ACTS) {
-                first = (first + 1) % MOST_ACTS;
+                first = Math.floorMod(first + 1, MOST_ACTS);
                 size--;
             }
-            before[(first + size) % MOST_ACTS].copyFrom(load);
+            before[behindLast()].copyFrom(load);
             size++;
         }
 
         void undoLast(Load load) {
             if (size > 0) {
                 size--;
-                load.copyFrom(before[(first + size) % MOST_ACTS]);
+                load.copyFrom(before[behindLast()]);
             }
+        }
+
+        private int behindLast() {
+            return Math.floorMod(first + size, MOST_ACTS);
         }
     }
 
@@ -865,7 +869,7 @@ public final class ShipFromItself {
 
         /** How all is behind the row. */
         Load end() {
-            return steps[moves];
+            return moves >= 0 && moves < steps.length ? steps[moves] : steps[0];
         }
 
         void copyTo(int[] target) {
@@ -897,6 +901,9 @@ public final class ShipFromItself {
         }
 
         private boolean makeNextMove(int at) {
+            if (at < 0 || at >= row.length || at + 1 >= steps.length) {
+                return false;
+            }
             for (int told = row[at] + 1; told < MOVES_TOLD; told++) {
                 int timber = told / 10;
                 int place = told % 10;

@@ -23,7 +23,7 @@ public final class LanguageTest {
         "int keep(int)", "int again(int)", "int count(int)");
     private static final List<String> CONSTANTS = List.of("UNKNOWN", "OUTSIDE", "STATE", "FULL", "NONE");
     private static final List<String> LIBRARY = List.of("System.arraycopy", "Math.max", "Math.min", "Integer.bitCount",
-        "Integer.numberOfTrailingZeros");
+        "Integer.numberOfTrailingZeros", "Math.floorMod");
 
     public static void main(String[] args) throws IOException {
         face();
