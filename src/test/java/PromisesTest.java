@@ -13,6 +13,7 @@ public final class PromisesTest {
     private static final String EMPTY_SHIP = "S001";
 
     public static void main(String[] args) {
+        constants();
         newObject();
         write();
         wipe();
@@ -30,14 +31,17 @@ public final class PromisesTest {
         watchAndFall();
         back();
         backForgets();
+        backForgetsMany();
         leak();
         floats();
         harm();
         may();
         best();
         bestFewestAndFirst();
+        bestAtByItself();
         port();
         portFewestAndFirst();
+        portAtByItself();
         storm();
         share();
         log();
@@ -54,6 +58,14 @@ public final class PromisesTest {
 
     private static ShipFromItself shipOf(String text) {
         return Check.shipOf(text);
+    }
+
+    private static void constants() {
+        due("UNKNOWN", UNKNOWN, -1);
+        due("OUTSIDE", OUTSIDE, -2);
+        due("STATE", STATE, -3);
+        due("FULL", FULL, -4);
+        due("NONE", NONE, -9);
     }
 
     // 1
@@ -465,6 +477,20 @@ public final class PromisesTest {
         due("count(5)", x.count(5), 6);
     }
 
+    private static void backForgetsMany() {
+        ShipFromItself x = shipOf("S901O19-P19-00O19-");
+        for (int i = 0; i < 101; i++) {
+            due("move(1, " + i % 3 + ")", x.move(1, (i + 2) % 3), 1);
+        }
+        due("count(9)", x.count(9), 24);
+        for (int i = 100; i > 76; i--) {
+            due("timber(1, 0)", x.timber(1, 0), (i + 2) % 3);
+            due("back()", x.back(), i - 77);
+        }
+        due("timber(1, 0)", x.timber(1, 0), 78 % 3);
+        due("back()", x.back(), STATE);
+    }
+
     // 13
     private static void leak() {
         ShipFromItself x = shipOf(TOWER);
@@ -605,6 +631,22 @@ public final class PromisesTest {
         best(shipOf("S001O19-" + "P19-00".repeat(8) + "P12-00"), 2, 2, 90, NONE);
     }
 
+    private static void bestAtByItself() {
+        // Only 1 fits into 0; 2 fits into none. What was asked ahead of a call must not show in it.
+        ShipFromItself x = shipOf("S001O39-P35-00P24-00");
+        due("bestAt(1, 0) at first", x.bestAt(1, 0), 10);
+        due("bestAt(0, 0)", x.bestAt(0, 0), NONE);
+        due("bestAt(2, 0)", x.bestAt(2, 0), 10);
+        x.take(1);
+        due("bestAt(2, 0) of another state", x.bestAt(2, 0), 10);
+        x.back();
+        x.move(1, 0);
+        due("bestAt(2, 0) of another state", x.bestAt(2, 0), NONE);
+        ShipFromItself y = shipOf("S001O29-P35-00P24-00P31-00O31-");
+        due("bestAt(2, 1) at first", y.bestAt(2, 1), NONE);
+        due("bestAt(2, 0)", y.bestAt(2, 0), 30);
+    }
+
     private static void port(ShipFromItself x, int n, int moves, int first, int second) {
         due("port(" + n + ")", x.port(n), moves);
         due("portAt(" + n + ", 0)", x.portAt(n, 0), first);
@@ -658,6 +700,17 @@ public final class PromisesTest {
         port(x, 4, 1, 20, NONE);
         // What rests on an OPEN PLACE is saved by what closes that.
         port(shipOf("S020O10-P19000P10-00"), 99, 1, 20, NONE);
+    }
+
+    private static void portAtByItself() {
+        ShipFromItself x = shipOf("S020O59-P52-00P40-00O42-");
+        due("portAt(6, 1) at first", x.portAt(6, 1), 23);
+        due("portAt(2, 1)", x.portAt(2, 1), NONE);
+        due("portAt(2, 0)", x.portAt(2, 0), 10);
+        due("portAt(11, 0)", x.portAt(11, 0), NONE);
+        due("portAt(1, 0)", x.portAt(1, 0), NONE);
+        due("bestAt(2, 1)", x.bestAt(2, 1), 23);
+        due("portAt(99, 0)", x.portAt(99, 0), NONE);
     }
 
     private static void storm(ShipFromItself x, int tenths, int y, long above, long below) {
