@@ -25,13 +25,46 @@ public final class LanguageTest {
     private static final List<String> LIBRARY = List.of("System.arraycopy", "Math.max", "Math.min", "Integer.bitCount",
         "Integer.numberOfTrailingZeros", "Math.floorMod");
 
-    public static void main(String[] args) throws IOException {
+    private static final int[] NUMBERS = {Integer.MIN_VALUE, -101, -1, 0, 1, 2, 3, 9, 10, 11, 72, 73, 100, 200, 1023,
+        1024, Integer.MAX_VALUE};
+
+    public static void main(String[] args) throws IOException, ReflectiveOperationException {
         face();
         classes();
+        for (String text : List.of("", "S001", "S320P94-05P53019O380", "S001O19-P91-00", "S99",
+            "S999" + "P11-09".repeat(10), "S009" + "O99-".repeat(10))) {
+            anyNumbers(text);
+        }
         String source = Files.readString(Path.of("src/main/java/ShipFromItself.java"), StandardCharsets.ISO_8859_1);
         words(source);
         methodsAreShort(source);
         Check.end();
+    }
+
+    /** No call throws, whatever its numbers, ahead of all others and behind them. */
+    private static void anyNumbers(String text) throws ReflectiveOperationException {
+        ShipFromItself x = new ShipFromItself();
+        Check.write(x, text);
+        x.ship();
+        for (int round = 0; round < 2; round++) {
+            for (Method method : ShipFromItself.class.getDeclaredMethods()) {
+                for (int one = 0; one < NUMBERS.length * NUMBERS.length && Modifier.isPublic(method.getModifiers()); one++) {
+                    Object answer = method.invoke(x, numbersFor(method, one));
+                    Check.holds(method + " of " + text, ((Number) answer).longValue() >= ShipFromItself.NONE);
+                }
+            }
+        }
+    }
+
+    private static Object[] numbersFor(Method method, int one) {
+        Class<?>[] types = method.getParameterTypes();
+        Object[] numbers = new Object[types.length];
+        for (int i = 0; i < types.length; i++) {
+            int number = NUMBERS[(i == 0 ? one : one / NUMBERS.length) % NUMBERS.length];
+            numbers[i] = types[i] == boolean.class ? (Object) (number > 0) : types[i] == long.class ? (Object) (long) number
+                : (Object) number;
+        }
+        return numbers;
     }
 
     private static void face() {
