@@ -2,6 +2,8 @@
 final class Check {
     private static int wrong = 0;
     private static int asked = 0;
+    private static int sentences = 0;
+    private static String sentence = "";
 
     private Check() {
     }
@@ -11,7 +13,7 @@ final class Check {
         if (got != want) {
             wrong++;
             if (wrong <= 40) {
-                System.out.println(call + " answered " + got + ", due is " + want);
+                System.out.println(sentence + call + " answered " + got + ", due is " + want);
             }
         }
     }
@@ -20,12 +22,22 @@ final class Check {
         due(what, so ? 1 : 0, 1);
     }
 
+    /** The test of one sentence of the document; it must ask something. */
+    static void sentence(String words, Runnable test) {
+        int askedBefore = asked;
+        sentence = "\"" + words + "\": ";
+        test.run();
+        holds("something is asked", asked > askedBefore);
+        sentences++;
+        sentence = "";
+    }
+
     static int wrong() {
         return wrong;
     }
 
     static void end() {
-        System.out.println(asked + " answers, " + wrong + " not as due");
+        System.out.println((sentences > 0 ? sentences + " sentences, " : "") + asked + " answers, " + wrong + " not as due");
         if (wrong != 0) {
             System.exit(1);
         }

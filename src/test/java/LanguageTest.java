@@ -41,19 +41,34 @@ public final class LanguageTest {
         Check.end();
     }
 
-    /** No call throws, whatever its numbers, ahead of all others and behind them. */
+    /** No call throws, whatever its numbers: each call by itself, and then all of them, mixed. */
     private static void anyNumbers(String text) throws ReflectiveOperationException {
+        Method[] methods = Arrays.stream(ShipFromItself.class.getDeclaredMethods())
+            .filter(method -> Modifier.isPublic(method.getModifiers())).toArray(Method[]::new);
+        int all = NUMBERS.length * NUMBERS.length;
+        long mix = 1;
+        for (Method method : methods) {
+            ShipFromItself x = shipWith(text);
+            for (int one = 0; one < all; one++) {
+                answers(x, method, one, text);
+            }
+            for (int call = 0; call < 200; call++) {
+                mix = mix * 6364136223846793005L + 1442695040888963407L;
+                answers(x, methods[(int) ((mix >>> 33) % methods.length)], (int) ((mix >>> 40) % all), text);
+            }
+        }
+    }
+
+    private static ShipFromItself shipWith(String text) {
         ShipFromItself x = new ShipFromItself();
         Check.write(x, text);
         x.ship();
-        for (int round = 0; round < 2; round++) {
-            for (Method method : ShipFromItself.class.getDeclaredMethods()) {
-                for (int one = 0; one < NUMBERS.length * NUMBERS.length && Modifier.isPublic(method.getModifiers()); one++) {
-                    Object answer = method.invoke(x, numbersFor(method, one));
-                    Check.holds(method + " of " + text, ((Number) answer).longValue() >= ShipFromItself.NONE);
-                }
-            }
-        }
+        return x;
+    }
+
+    private static void answers(ShipFromItself x, Method method, int one, String text) throws ReflectiveOperationException {
+        Object answer = method.invoke(x, numbersFor(method, one));
+        Check.holds(method + " of " + text, ((Number) answer).longValue() >= ShipFromItself.NONE);
     }
 
     private static Object[] numbersFor(Method method, int one) {
@@ -107,9 +122,11 @@ public final class LanguageTest {
     private static void classes() {
         Class<?>[] inside = ShipFromItself.class.getDeclaredClasses();
         Check.holds("some twelve classes", inside.length + 1 <= 12);
+        fields(ShipFromItself.class);
         for (Class<?> one : inside) {
             Check.holds("private static: " + one,
                 Modifier.isPrivate(one.getModifiers()) && Modifier.isStatic(one.getModifiers()));
+            fields(one);
             for (Method method : one.getDeclaredMethods()) {
                 Check.holds("no name of the face: " + method,
                     FACE.stream().noneMatch(told -> told.contains(' ' + method.getName() + '(')));
@@ -120,9 +137,16 @@ public final class LanguageTest {
             Check.holds("no name of the face: " + method, Modifier.isPublic(method.getModifiers())
                 || FACE.stream().noneMatch(told -> told.contains(' ' + method.getName() + '(')));
         }
-        long fields = Arrays.stream(ShipFromItself.class.getDeclaredFields())
-            .filter(field -> !Modifier.isStatic(field.getModifiers())).count();
-        Check.holds("some twenty fields", fields <= 20);
+    }
+
+    /** Some twenty beside the constants; static ones are final, and numbers. */
+    private static void fields(Class<?> one) {
+        long own = Arrays.stream(one.getDeclaredFields()).filter(field -> !Modifier.isStatic(field.getModifiers())).count();
+        Check.holds("some twenty fields: " + one, own <= 20);
+        for (Field field : one.getDeclaredFields()) {
+            boolean constant = Modifier.isFinal(field.getModifiers()) && field.getType() == int.class;
+            Check.holds("no static state: " + field, constant || !Modifier.isStatic(field.getModifiers()));
+        }
     }
 
     private static void words(String source) {

@@ -11,8 +11,9 @@ import java.util.regex.Pattern;
  * there is (every set of torn TIMBERS, every row of MOVES, every WATCH) and keeps nothing but the words' own state.
  */
 public final class ModelTest {
-    private static final int SHIPS = 1500;
-    private static final int CALLS = 120;
+    private static final int SHIPS = 2500;
+    /** Behind these some hundred more compare all: an object is used for 512 calls at most. */
+    private static final int CALLS = 390;
 
     public static void main(String[] args) {
         for (int run = 0; run < SHIPS && Check.wrong() == 0; run++) {
@@ -426,6 +427,7 @@ public final class ModelTest {
         private final Numbers numbers;
         private final ShipFromItself x = new ShipFromItself();
         private final Model m = new Model();
+        private int calls = 0;
 
         Run(int number) {
             this.number = number;
@@ -434,15 +436,19 @@ public final class ModelTest {
 
         void go() {
             setShip(2 + numbers.below(9));
-            for (int call = 0; call < CALLS && Check.wrong() == 0; call++) {
+            boolean compared = false;
+            while (calls < CALLS && Check.wrong() == 0) {
                 callOne();
-                if (call % 10 == 9) {
+                if (calls > CALLS / 2 && !compared) {
                     compareAll();
+                    compared = true;
                 }
             }
+            compareAll();
         }
 
         private void due(String call, long got, long want) {
+            calls++;
             Check.due("run " + number + " of " + m.text + ": " + call, got, want);
         }
 
@@ -452,6 +458,7 @@ public final class ModelTest {
             m.text.setLength(0);
             m.text.append(text);
             Check.write(x, text);
+            calls += 9;
             due("ship()", x.ship(), m.ship());
         }
 
