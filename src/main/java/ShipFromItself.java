@@ -373,7 +373,7 @@ public final class ShipFromItself {
             size = 0;
         }
 
-        /** NO_BYTE behind the end: it fits nowhere, so that a text that is only cut short has its fault at its length. */
+        /** NO_BYTE behind the end: it fits nowhere, so that a text only cut short has its fault at its length. */
         int byteAt(int i) {
             return i >= 0 && i < size && i < bytes.length ? bytes[i] & 255 : NO_BYTE;
         }
@@ -937,7 +937,7 @@ public final class ShipFromItself {
             return i >= 0 && i < foundMoves && i < found.length ? found[i] : NONE;
         }
 
-        /** BEST. Rows with fewer MOVES, and first ones, come first: so only a lesser LEAK is better than what was found. */
+        /** BEST. Rows with fewer MOVES, and first ones, come first: so only a lesser LEAK betters what was found. */
         int leastLeak(Load start, int mostMoves) {
             int least = hull.leakOf(start);
             foundMoves = 0;

@@ -37,7 +37,8 @@ final class Check {
     }
 
     static void end() {
-        System.out.println((sentences > 0 ? sentences + " sentences, " : "") + asked + " answers, " + wrong + " not as due");
+        String tested = sentences > 0 ? sentences + " sentences, " : "";
+        System.out.println(tested + asked + " answers, " + wrong + " not as due");
         if (wrong != 0) {
             System.exit(1);
         }

@@ -1,4 +1,4 @@
-/** TAKEN, PUT, MOVES, WATCHES, and ACTS taken back (promises 8 to 12): the boundaries, each by the sentence that names it. */
+/** ACTS, and what is taken back (promises 8 to 12): the boundaries, each by the sentence that names it. */
 public final class EdgesOfActsTest {
     private static final int UNKNOWN = ShipFromItself.UNKNOWN;
     private static final int STATE = ShipFromItself.STATE;
@@ -11,7 +11,8 @@ public final class EdgesOfActsTest {
         Check.sentence("take: UNKNOWN from the number of PLACES on", EdgesOfActsTest::takeLast);
         Check.sentence("take: TAKEN out of a PLACE: the TIMBER (it is LAID)", EdgesOfActsTest::takeTells);
         Check.sentence("PUT, if it is as long as that or longer; it is cut", EdgesOfActsTest::putLongEnough);
-        Check.sentence("PUT: that RESTS on none, or on one in which there is a TIMBER", EdgesOfActsTest::putOnWhatBears);
+        Check.sentence("PUT: that RESTS on none, or on one in which there is a TIMBER",
+            EdgesOfActsTest::putOnWhatBears);
         Check.sentence("A LAID one may be PUT into an OPEN PLACE", EdgesOfActsTest::putLaidIntoOpen);
         Check.sentence("put: UNKNOWN: timber, place", EdgesOfActsTest::putLast);
         Check.sentence("A MOVE: TAKEN, if it is in a PLACE, and PUT into another one", EdgesOfActsTest::moveToAnother);

@@ -84,7 +84,8 @@ public final class EdgesOfFloatingTest {
         due("at first", new ShipFromItself().floats(), 99);
         for (int hold = 1; hold <= 99; hold++) {
             for (int leak = 1; leak <= 9; leak++) {
-                due("hold " + hold + ", leak " + leak, shipOf("S0" + hold(hold) + "O1" + leak + "-").floats(), hold / leak);
+                ShipFromItself x = shipOf("S0" + hold(hold) + "O1" + leak + "-");
+                due("hold " + hold + ", leak " + leak, x.floats(), hold / leak);
             }
         }
     }
@@ -242,8 +243,8 @@ public final class EdgesOfFloatingTest {
     }
 
     private static void mayAsMoved() {
-        String[] texts = {"S099P94-00P53010P52020O380P61100O424O51-", "S099O11-P11000P11100", "S099P31-00O31-O41-O21-O310",
-            "S099" + "P11-00".repeat(5) + "O11-".repeat(5)};
+        String[] texts = {"S099P94-00P53010P52020O380P61100O424O51-", "S099O11-P11000P11100",
+            "S099P31-00O31-O41-O21-O310", "S099" + "P11-00".repeat(5) + "O11-".repeat(5)};
         for (String text : texts) {
             int places = shipOf(text).count(1);
             for (int timber = 0; timber < places; timber++) {

@@ -21,7 +21,8 @@ public final class EdgesOfTextTest {
         Check.sentence("THE TEXT is empty: how long it was", EdgesOfTextTest::wipe);
         Check.sentence("a wiped text leaves no byte behind", EdgesOfTextTest::wipedBytes);
         Check.sentence("FAULT of an empty text", EdgesOfTextTest::emptyText);
-        Check.sentence("the first byte by which THE TEXT can be no SHIP: each byte at each place", EdgesOfTextTest::everyByte);
+        Check.sentence("the first byte by which THE TEXT can be no SHIP: each byte at each place",
+            EdgesOfTextTest::everyByte);
         Check.sentence("RESTS on PLACE r (one that was told ahead of it)", EdgesOfTextTest::restsOnOneAhead);
         Check.sentence("what THE HOLD bears (01 to 99)", EdgesOfTextTest::hold);
         Check.sentence("PUMPS (a figure, 0 to 9)", EdgesOfTextTest::pumps);

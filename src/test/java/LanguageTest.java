@@ -66,7 +66,8 @@ public final class LanguageTest {
         return x;
     }
 
-    private static void answers(ShipFromItself x, Method method, int one, String text) throws ReflectiveOperationException {
+    private static void answers(ShipFromItself x, Method method, int one, String text)
+            throws ReflectiveOperationException {
         Object answer = method.invoke(x, numbersFor(method, one));
         Check.holds(method + " of " + text, ((Number) answer).longValue() >= ShipFromItself.NONE);
     }
@@ -76,8 +77,8 @@ public final class LanguageTest {
         Object[] numbers = new Object[types.length];
         for (int i = 0; i < types.length; i++) {
             int number = NUMBERS[(i == 0 ? one : one / NUMBERS.length) % NUMBERS.length];
-            numbers[i] = types[i] == boolean.class ? (Object) (number > 0) : types[i] == long.class ? (Object) (long) number
-                : (Object) number;
+            numbers[i] = types[i] == boolean.class ? (Object) (number > 0)
+                : types[i] == long.class ? (Object) (long) number : (Object) number;
         }
         return numbers;
     }
@@ -141,7 +142,8 @@ public final class LanguageTest {
 
     /** Some twenty beside the constants; static ones are final, and numbers. */
     private static void fields(Class<?> one) {
-        long own = Arrays.stream(one.getDeclaredFields()).filter(field -> !Modifier.isStatic(field.getModifiers())).count();
+        long own = Arrays.stream(one.getDeclaredFields())
+            .filter(field -> !Modifier.isStatic(field.getModifiers())).count();
         Check.holds("some twenty fields: " + one, own <= 20);
         for (Field field : one.getDeclaredFields()) {
             boolean constant = Modifier.isFinal(field.getModifiers()) && field.getType() == int.class;
@@ -152,7 +154,8 @@ public final class LanguageTest {
     private static void words(String source) {
         String code = source.replaceAll("(?s)/\\*.*?\\*/", " ").replaceAll("//[^\n]*", " ");
         for (String word : List.of("throw", "throws", "try", "catch", "finally", "synchronized", "assert", "import",
-            "package", "native", "volatile", "transient", "var", "instanceof", "String", "null", "protected", "@\\w+")) {
+            "package", "native", "volatile", "transient", "var", "instanceof", "String", "null", "protected",
+            "@\\w+")) {
             Check.holds("without " + word, !Pattern.compile("(?<!\\w)" + word + "(?!\\w)").matcher(code).find());
         }
         Check.holds("no lambda, no method reference", !code.contains("->") && !code.contains("::"));

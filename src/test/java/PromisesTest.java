@@ -246,7 +246,8 @@ public final class PromisesTest {
     private static void place() {
         ShipFromItself x = shipOf(TOWER);
         int[][] of = {
-            {9, 4, NONE, 0}, {5, 3, 0, 1}, {5, 5, 0, 2}, {3, 8, 0, NONE}, {6, 6, 1, 4}, {4, 2, 4, NONE}, {5, 1, NONE, NONE}};
+            {9, 4, NONE, 0}, {5, 3, 0, 1}, {5, 5, 0, 2}, {3, 8, 0, NONE}, {6, 6, 1, 4}, {4, 2, 4, NONE},
+            {5, 1, NONE, NONE}};
         for (int place = 0; place < of.length; place++) {
             for (int what = 0; what < 4; what++) {
                 due("place(" + place + ", " + what + ")", x.place(place, what), of[place][what]);

@@ -1,4 +1,4 @@
-/** All that an object tells of itself, so that two of them can be compared: of eight PLACES by some 460 calls at most. */
+/** All that an object tells of itself, so that two can be compared; of eight PLACES by some 410 calls at most. */
 final class Told {
     private Told() {
     }
@@ -60,7 +60,8 @@ final class Told {
 
     private static String load(ShipFromItself x) {
         StringBuilder told = new StringBuilder();
-        told.append("water ").append(x.count(5)).append(" sunk ").append(x.count(6)).append(" acts ").append(x.count(9));
+        told.append("water ").append(x.count(5)).append(" sunk ").append(x.count(6));
+        told.append(" acts ").append(x.count(9));
         int places = x.count(1);
         for (int timber = 0; timber < places; timber++) {
             told.append(", ").append(x.timber(timber, 0)).append(' ').append(x.timber(timber, 1));
