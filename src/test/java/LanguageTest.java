@@ -37,7 +37,6 @@ public final class LanguageTest {
         }
         String source = Files.readString(Path.of("src/main/java/ShipFromItself.java"), StandardCharsets.ISO_8859_1);
         words(source);
-        methodsAreShort(source);
         Check.end();
     }
 
@@ -166,21 +165,5 @@ public final class LanguageTest {
         }
         Matcher loop = Pattern.compile("\\b(while|do)\\b").matcher(code);
         Check.holds("loops by a counter alone", !loop.find());
-    }
-
-    private static void methodsAreShort(String source) {
-        int begun = 0;
-        String[] lines = source.split("\n");
-        for (int i = 0; i < lines.length; i++) {
-            if (lines[i].matches(" {4}( {4})?[A-Za-z].*\\) \\{")) {
-                begun = i;
-            } else if (lines[i].matches(" {4}( {4})?\\}")) {
-                Check.holds("sixty lines at most, from line " + (begun + 1), i - begun < 60 || !isMethod(lines[begun]));
-            }
-        }
-    }
-
-    private static boolean isMethod(String line) {
-        return line.endsWith(") {");
     }
 }
