@@ -25,7 +25,8 @@ public final class ReadmeTest {
             if (line.startsWith("x.")) {
                 Matcher matcher = CALL.matcher(line);
                 Check.holds("a call and its answer: " + line, matcher.matches());
-                Check.due(line, answer(x, method(matcher.group(1)), matcher.group(2)), Long.parseLong(matcher.group(3)));
+                long answer = answer(x, method(matcher.group(1)), matcher.group(2));
+                Check.due(line, answer, Long.parseLong(matcher.group(3)));
                 called.add(matcher.group(1));
             }
         }

@@ -143,7 +143,8 @@ public final class SourceTest {
             String step = loop.getUpdate().get(0).getExpression().toString();
             boolean up = step.equals(counter + "++");
             boolean down = step.equals(counter + "--");
-            return (up || down) && isBounded(loop.getCondition(), counter, up) && !changes(loop.getStatement(), counter);
+            return (up || down) && isBounded(loop.getCondition(), counter, up)
+                && !changes(loop.getStatement(), counter);
         }
 
         /** One part of the condition, of those joined by &&, is the counter against a bound. */
