@@ -21,6 +21,11 @@ public final class LanguageTest {
         "int floats()", "int harm(int)", "int may(int,int)", "int best(int)", "int bestAt(int,int)", "int port(int)",
         "int portAt(int,int)", "long storm(int,int,boolean)", "int share(int,boolean)", "int log(int,int)",
         "int keep(int)", "int again(int)", "int count(int)");
+    /** "Ahead of the calls .. the interface says: ----". */
+    private static final List<String> HEADINGS = List.of("the ship: write, wipe, fault, ship, place, timber",
+        "acts: take, put, move, watch, back",
+        "how she is: leak, floats, harm, may, best, bestAt, port, portAt", "storm, shares, the log: storm, share, log",
+        "slots: keep, again, count");
     private static final List<String> CONSTANTS = List.of("UNKNOWN", "OUTSIDE", "STATE", "FULL", "NONE");
     private static final List<String> LIBRARY = List.of("System.arraycopy", "Math.max", "Math.min", "Integer.bitCount",
         "Integer.numberOfTrailingZeros", "Math.floorMod");
@@ -36,6 +41,7 @@ public final class LanguageTest {
             anyNumbers(text);
         }
         String source = Files.readString(Path.of("src/main/java/ShipFromItself.java"), StandardCharsets.ISO_8859_1);
+        headings(source);
         words(source);
         Check.end();
     }
@@ -148,6 +154,23 @@ public final class LanguageTest {
             boolean constant = Modifier.isFinal(field.getModifiers()) && field.getType() == int.class;
             Check.holds("no static state: " + field, constant || !Modifier.isStatic(field.getModifiers()));
         }
+    }
+
+    private static void headings(String source) {
+        StringBuilder told = new StringBuilder();
+        Matcher matcher = Pattern.compile("(?m)^    // ---- (.*)$|^    public (?:int|long) (\\w+)\\(").matcher(source);
+        while (matcher.find()) {
+            boolean heading = matcher.group(1) != null;
+            boolean first = told.length() > 0 && told.charAt(told.length() - 1) == ':';
+            told.append(heading ? "\n" : first ? " " : ", ").append(matcher.group(heading ? 1 : 2));
+            told.append(heading ? ":" : "");
+        }
+        String[] lines = told.toString().split("\n");
+        for (int i = 0; i < HEADINGS.size(); i++) {
+            String line = i + 1 < lines.length ? lines[i + 1] : "";
+            Check.holds("\"" + line + "\" and not \"" + HEADINGS.get(i) + "\"", line.equals(HEADINGS.get(i)));
+        }
+        Check.due("no call ahead of the first heading", lines[0].length(), 0);
     }
 
     private static void words(String source) {
